@@ -30,6 +30,8 @@ public final class WireSchema {
     private static final int TOO_GREAT = -3;
     private static final int LACKS = -4;
 
+    private static final Kind[] KINDS = Kind.values();
+
     private final Draft draft;
     private final Struct[] structs;
     private int structCount;
@@ -285,9 +287,9 @@ public final class WireSchema {
     }
 
     private Kind kindOfWord(int word) {
-        for (int i = 0; i < Kind.ALL.length; i++) {
-            if (draft.isWord(word, Kind.ALL[i].word)) {
-                return Kind.ALL[i];
+        for (int i = 0; i < KINDS.length; i++) {
+            if (draft.isWord(word, KINDS[i].word)) {
+                return KINDS[i];
             }
         }
         return null;
@@ -343,8 +345,6 @@ public final class WireSchema {
         TEXT("text", 11, 8, 0, 0, -1),
         STRUCT("struct", 12, 12, 0, 0, -1),
         LIST("list", 15, 9, 0, 0, -1);
-
-        private static final Kind[] ALL = values();
 
         final String word;
         final int plainWire;
@@ -725,30 +725,25 @@ public final class WireSchema {
         private static final int ID_WIDTH = 2;
         private static final int COUNT_WIDTH = 4;
 
-        @Override
         void putHead(Kind kind, int id, int before, ByteRow out) {
             out.put(kind.plainWire);
             putWide(id, ID_WIDTH, out);
         }
 
-        @Override
         void putFlagField(long flag, int id, int before, ByteRow out) {
             putHead(Kind.FLAG, id, before, out);
             putNumber(Kind.FLAG, flag, out);
         }
 
-        @Override
         void putListHead(Kind kind, int count, ByteRow out) {
             out.put(kind.plainWire);
             putWide(count, COUNT_WIDTH, out);
         }
 
-        @Override
         void putLength(int length, ByteRow out) {
             putWide(length, COUNT_WIDTH, out);
         }
 
-        @Override
         void putNumber(Kind kind, long v, ByteRow out) {
             putWide(v, kind.width, out);
         }
@@ -759,37 +754,31 @@ public final class WireSchema {
             }
         }
 
-        @Override
         Kind kindIn(int head) {
-            for (int i = 0; i < Kind.ALL.length; i++) {
-                if (Kind.ALL[i].plainWire == head) {
-                    return Kind.ALL[i];
+            for (int i = 0; i < KINDS.length; i++) {
+                if (KINDS[i].plainWire == head) {
+                    return KINDS[i];
                 }
             }
             return null;
         }
 
-        @Override
         int takeId(int head, int before, Reader in) {
             return (int) takeWide(ID_WIDTH, in) & 65535;
         }
 
-        @Override
         long takeFieldFlag(int head, Reader in) {
             return takeNumber(Kind.FLAG, in);
         }
 
-        @Override
         long takeListCount(int head, Reader in) {
             return takeWide(COUNT_WIDTH, in);
         }
 
-        @Override
         long takeLength(Reader in) {
             return takeWide(COUNT_WIDTH, in);
         }
 
-        @Override
         long takeNumber(Kind kind, Reader in) {
             long v = takeWide(kind.width, in);
             if (kind == Kind.FLAG && !kind.holds(v)) {
@@ -813,27 +802,22 @@ public final class WireSchema {
         private static final int SET_FLAG = 1;
         private static final int UNSET_FLAG = 2;
 
-        @Override
         void putHead(Kind kind, int id, int before, ByteRow out) {
             putWire(kind.denseWire, id, before, out);
         }
 
-        @Override
         void putFlagField(long flag, int id, int before, ByteRow out) {
             putWire(wireOfFlag(flag), id, before, out);
         }
 
-        @Override
         void putListHead(Kind kind, int count, ByteRow out) {
             out.put(16 * count + kind.denseWire);
         }
 
-        @Override
         void putLength(int length, ByteRow out) {
             putVarint(length, out);
         }
 
-        @Override
         void putNumber(Kind kind, long v, ByteRow out) {
             if (kind == Kind.FLAG) {
                 out.put(wireOfFlag(v));
@@ -871,21 +855,19 @@ public final class WireSchema {
             out.put((int) left);
         }
 
-        @Override
         Kind kindIn(int head) {
             int wire = head & 15;
             if (wire == UNSET_FLAG) {
                 return Kind.FLAG;
             }
-            for (int i = 0; i < Kind.ALL.length; i++) {
-                if (Kind.ALL[i].denseWire == wire) {
-                    return Kind.ALL[i];
+            for (int i = 0; i < KINDS.length; i++) {
+                if (KINDS[i].denseWire == wire) {
+                    return KINDS[i];
                 }
             }
             return null;
         }
 
-        @Override
         int takeId(int head, int before, Reader in) {
             int step = head >> 4;
             if (step > 0) {
@@ -899,22 +881,18 @@ public final class WireSchema {
             return (int) id;
         }
 
-        @Override
         long takeFieldFlag(int head, Reader in) {
             return flagOf(head & 15, in);
         }
 
-        @Override
         long takeListCount(int head, Reader in) {
             return head >> 4;
         }
 
-        @Override
         long takeLength(Reader in) {
             return in.takeVarint();
         }
 
-        @Override
         long takeNumber(Kind kind, Reader in) {
             if (kind == Kind.FLAG) {
                 return flagOf(in.take(), in);
@@ -963,7 +941,7 @@ public final class WireSchema {
             isMalformed = true;
         }
 
-        private void find(int outcome) {
+        private void noteFirst(int outcome) {
             if (firstFound == READ) {
                 firstFound = outcome;
             }
@@ -1010,7 +988,7 @@ public final class WireSchema {
                 readField(head, id, record, depth);
             }
             if (record != null && record.lacksField()) {
-                find(LACKS);
+                noteFirst(LACKS);
             }
             return record;
         }
@@ -1055,7 +1033,7 @@ public final class WireSchema {
             Slot slot = null;
             if (field != null && field.kind == kind) {
                 if (size > MAX_ELEMENTS) {
-                    find(TOO_GREAT);
+                    noteFirst(TOO_GREAT);
                 } else {
                     slot = new Slot(field);
                 }
@@ -1105,7 +1083,7 @@ public final class WireSchema {
                 return;
             }
             if (length > MAX_LETTERS || !areLetters(start, position)) {
-                find(TOO_GREAT);
+                noteFirst(TOO_GREAT);
             } else {
                 slot.addText(source.cells, start, (int) length);
             }

@@ -247,7 +247,10 @@ final class DecodeTest {
                 22, 128, 128, 128, 128, 128, 128, 128, 128, 128, 128, 0, 0);
         due("eleven bytes passed over", -2, x, DENSE,
                 38, 128, 128, 128, 128, 128, 128, 128, 128, 128, 128, 0, 0);
+        due("ten bytes that do not end it", -2, x, DENSE,
+                22, 128, 128, 128, 128, 128, 128, 128, 128, 128, 128, 0);
         due("no end of it", -2, x, DENSE, 22, 128, 128);
+        due("no end of a length", -2, with("text"), DENSE, 24, 128);
     }
 
     private static void zigzagsThatDoNotFit() {
@@ -297,6 +300,7 @@ final class DecodeTest {
                 "field 3 list int");
         due("6 records", 0, x, DENSE, 28, 28, 28, 28, 28, 0, 0, 0, 0, 0, 0);
         due("7 records", -2, x, DENSE, 28, 28, 28, 28, 28, 28, 0, 0, 0, 0, 0, 0, 0);
+        due("7 records, one end too few", -2, x, DENSE, 28, 28, 28, 28, 28, 28, 0, 0, 0, 0, 0, 0);
         due("7 records passed over", -2, x, DENSE, 92, 28, 28, 28, 28, 28, 0, 0, 0, 0, 0, 0, 0);
         due("6 records passed over", 0, x, DENSE, 92, 28, 28, 28, 28, 0, 0, 0, 0, 0, 0);
         due("6 by lists", 0, x, DENSE,

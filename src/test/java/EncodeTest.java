@@ -10,6 +10,7 @@ final class EncodeTest {
         zigzags();
         recordsInRecords();
         emptyListsThatWereRead();
+        sixDeepThatWereRead();
         theRootIsWrittenNotWhatIsAtHand();
         refusals();
         whatIsLacking();
@@ -148,6 +149,13 @@ final class EncodeTest {
         CHECK.same("no elements", x.size(1), 0);
         encoded("an empty list is a value", x,
                 "15 0 1 8 0 0 0 0 15 0 2 12 0 0 0 0 0", "25 5 25 12 0");
+    }
+
+    private static void sixDeepThatWereRead() {
+        WireSchema x = Use.schema("struct", "field 1 struct 0", "field 2 byte");
+        String dense = "28 28 28 28 28 35 7 0 0 0 0 0 0";
+        CHECK.same("6 deep", Use.decode(x, 0, 1, 28, 28, 28, 28, 28, 35, 7, 0, 0, 0, 0, 0, 0), 0);
+        encoded("6 deep", x, "12 0 1 12 0 1 12 0 1 12 0 1 12 0 1 3 0 2 7 0 0 0 0 0 0", dense);
     }
 
     private static void theRootIsWrittenNotWhatIsAtHand() {

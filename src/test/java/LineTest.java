@@ -11,6 +11,7 @@ final class LineTest {
         structNumbers();
         limitsAreStates();
         draftIsEmptyBehindEveryLine();
+        wordsOfALongerLineAreGone();
         whatDropsTheRoot();
         CHECK.end();
     }
@@ -136,6 +137,17 @@ final class LineTest {
         CHECK.same("behind a struct", x.line(), 0);
         CHECK.same("a field", Use.line(x, "field 1 int"), 2);
         CHECK.same("behind a field", x.line(), 0);
+    }
+
+    /** A line is read by its own words alone, not by those of a longer one before. */
+    private static void wordsOfALongerLineAreGone() {
+        WireSchema x = Use.schema("struct", "field 1 list struct 0 required");
+        CHECK.same("four words", Use.line(x, "field 2 struct 0"), 2);
+        CHECK.same("three words", Use.line(x, "field 3 int"), 2);
+        CHECK.throwing("two words", Check.ARGUMENT, () -> Use.line(x, "field 4"));
+        CHECK.same("six words", Use.line(x, "field 5 list struct 0 required"), 2);
+        CHECK.throwing("four words", Check.ARGUMENT, () -> Use.line(x, "field 6 list struct"));
+        CHECK.same("five words", Use.line(x, "field 6 list struct 0"), 2);
     }
 
     private static void whatDropsTheRoot() {
