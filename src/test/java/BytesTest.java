@@ -11,7 +11,7 @@ final class BytesTest {
     }
 
     private static void feedTakes120() {
-        WireSchema x = new WireSchema();
+        Run x = new Run();
         for (int b : new int[] {-1, 256, -256, 512, Integer.MAX_VALUE, Integer.MIN_VALUE}) {
             CHECK.no("feed(" + b + ")", x.feed(b));
         }
@@ -28,7 +28,7 @@ final class BytesTest {
     }
 
     private static void clearLeavesNothing() {
-        WireSchema x = Use.schema("struct", "field 1 byte");
+        Run x = Use.schema("struct", "field 1 byte");
         x.begin(0);
         x.number(1, 3);
         x.encode(0);
@@ -47,7 +47,7 @@ final class BytesTest {
     }
 
     private static void atLooksAtOne() {
-        WireSchema x = new WireSchema();
+        Run x = new Run();
         Use.feed(x, 0, 255, 128);
         CHECK.same("at(0)", x.at(0), 0);
         CHECK.same("at(1)", x.at(1), 255);
@@ -59,7 +59,7 @@ final class BytesTest {
     }
 
     private static void countsOfAll() {
-        WireSchema x = Use.schema("struct", "field 1 int", "field 2 struct 0", "struct");
+        Run x = Use.schema("struct", "field 1 int", "field 2 struct 0", "struct");
         CHECK.same("structs", x.count(1), 2);
         CHECK.same("fields of the latest", x.count(2), 0);
         Use.line(x, "field 5 int");

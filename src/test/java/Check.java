@@ -10,9 +10,17 @@ final class Check {
     private final String test;
     private int compared = 0;
     private int wrong = 0;
+    private int sentences = 0;
+    private String sentence = "";
 
     Check(String test) {
         this.test = test;
+    }
+
+    /** The sentence of the document that the next answers are about. */
+    void of(String quoted) {
+        sentence = " \"" + quoted + "\"";
+        sentences++;
     }
 
     void same(String what, long got, long due) {
@@ -23,7 +31,8 @@ final class Check {
         compared++;
         if (!got.equals(due)) {
             wrong++;
-            System.out.println(test + ": " + what + " answered " + got + ", due is " + due);
+            System.out.println(
+                    test + sentence + ": " + what + " answered " + got + ", due is " + due);
         }
     }
 
@@ -43,6 +52,17 @@ final class Check {
         throwing(what, NOTHING, call);
     }
 
+    /** A call that throws and leaves everything as it was. */
+    void refused(String what, String due, Run run, Runnable call) {
+        keeps(what, run, () -> throwing(what, due, call));
+    }
+
+    void keeps(String what, Run run, Runnable calls) {
+        String before = State.of(run);
+        calls.run();
+        same("the state behind " + what, State.of(run), before);
+    }
+
     /** The exact class counts: a subclass of what is due would be another answer. */
     static String thrownBy(Runnable call) {
         try {
@@ -54,7 +74,8 @@ final class Check {
     }
 
     void end() {
-        System.out.println(test + ": " + compared + " answers compared, " + wrong + " wrong");
+        String told = sentences == 0 ? "" : " of " + sentences + " sentences";
+        System.out.println(test + ": " + compared + " answers" + told + ", " + wrong + " wrong");
         if (wrong > 0) {
             System.exit(1);
         }

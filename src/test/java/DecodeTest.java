@@ -26,16 +26,16 @@ final class DecodeTest {
         CHECK.end();
     }
 
-    private static void due(String what, int due, WireSchema x, int form, int... bytes) {
+    private static void due(String what, int due, Run x, int form, int... bytes) {
         CHECK.same(what, Use.decode(x, 0, form, bytes), due);
     }
 
-    private static WireSchema with(String type) {
+    private static Run with(String type) {
         return Use.schema("struct", "field 1 " + type);
     }
 
     private static void noSuchStructOrForm() {
-        WireSchema x = with("int");
+        Run x = with("int");
         Use.feed(x, 0);
         CHECK.same("struct -1", x.decode(-1, 0), -1);
         CHECK.same("struct 1", x.decode(1, 0), -1);
@@ -48,7 +48,7 @@ final class DecodeTest {
     }
 
     private static void readsAs(String type, String values, int form, int... bytes) {
-        WireSchema x = with(type);
+        Run x = with(type);
         due(type + " " + values, 0, x, form, bytes);
         CHECK.same(type, Use.values(x, 1), values);
         CHECK.same("path", x.count(3), 1);
@@ -70,7 +70,7 @@ final class DecodeTest {
         readsAs("list short", "-1 1", PLAIN, 15, 0, 1, 6, 0, 0, 0, 2, 255, 255, 0, 1, 0);
         readsAs("list int", "", PLAIN, 15, 0, 1, 8, 0, 0, 0, 0, 0);
         readsAs("text", "2", PLAIN, 11, 0, 1, 0, 0, 0, 2, 104, 105, 0);
-        WireSchema x = with("list text");
+        Run x = with("list text");
         due("texts", 0, x, PLAIN, 15, 0, 1, 11, 0, 0, 0, 2, 0, 0, 0, 1, 32, 0, 0, 0, 0, 0);
         CHECK.same("texts", Use.texts(x, 1), "/ /");
     }
@@ -86,10 +86,10 @@ final class DecodeTest {
         readsAs("list flag", "1 0", DENSE, 25, 34, 1, 2, 0);
         readsAs("list byte", "-1", DENSE, 25, 19, 255, 0);
         readsAs("list long", "1 2 3 4 5", DENSE, 25, 86, 2, 4, 6, 8, 10, 0);
-        WireSchema x = with("list text");
+        Run x = with("list text");
         due("texts", 0, x, DENSE, 25, 40, 3, 97, 126, 32, 0, 0);
         CHECK.same("texts", Use.texts(x, 1), "/a~ /");
-        WireSchema tree = Use.schema("struct", "field 1 byte", "field 2 list struct 0");
+        Run tree = Use.schema("struct", "field 1 byte", "field 2 list struct 0");
         due("records", 0, tree, DENSE, 19, 1, 25, 44, 19, 2, 0, 41, 28, 19, 3, 0, 0, 0);
         CHECK.same("two records", tree.size(2), 2);
         tree.go(2, 1);
@@ -105,7 +105,7 @@ final class DecodeTest {
         // What is passed over takes nothing away.
         readsAs("byte", "1", PLAIN, 3, 0, 1, 1, 6, 0, 1, 0, 2, 0);
         readsAs("list byte", "1 2", DENSE, 25, 35, 1, 2, 9, 2, 20, 6, 0);
-        WireSchema x = Use.schema("struct", "field 1 byte", "field 2 struct 0");
+        Run x = Use.schema("struct", "field 1 byte", "field 2 struct 0");
         due("a second record", 0, x, DENSE, 28 + 16, 19, 7, 0, 12, 4, 0, 0);
         x.go(2, 0);
         CHECK.same("is a new one", x.size(1), 0);
@@ -141,7 +141,7 @@ final class DecodeTest {
 
     /** Field 1, a byte, is 5; the field behind it is passed over and changes nothing. */
     private static void passedOver(int form, int[] known, int[] other) {
-        WireSchema x = with("byte");
+        Run x = with("byte");
         int[] all = java.util.Arrays.copyOf(known, known.length + other.length + 1);
         System.arraycopy(other, 0, all, known.length, other.length);
         String what = "form " + form + " " + java.util.Arrays.toString(other);
@@ -152,7 +152,7 @@ final class DecodeTest {
     }
 
     private static void endsAndRests() {
-        WireSchema x = with("int");
+        Run x = with("int");
         due("no bytes", -2, x, PLAIN);
         due("no bytes", -2, x, DENSE);
         due("the end alone", 0, x, PLAIN, 0);
@@ -171,37 +171,38 @@ final class DecodeTest {
     }
 
     private static void wireTypes() {
-        WireSchema x = with("list int");
         String plain = " 2 3 6 8 10 11 12 15 ";
         for (int wire = 1; wire < 256; wire++) {
             boolean is = plain.contains(" " + wire + " ");
-            due("plain list of " + wire, is ? 0 : -2, x, PLAIN, 15, 0, 1, wire, 0, 0, 0, 0, 0);
+            due("plain list of " + wire, is ? 0 : -2, with("list int"), PLAIN,
+                    15, 0, 1, wire, 0, 0, 0, 0, 0);
             if (!is) {
-                due("plain field " + wire, -2, x, PLAIN, wire, 0, 9, 0, 0, 0, 0, 0, 0, 0, 0, 0);
+                due("plain field " + wire, -2, with("list int"), PLAIN,
+                        wire, 0, 9, 0, 0, 0, 0, 0, 0, 0, 0, 0);
             }
         }
-        due("plain list of 0", -2, x, PLAIN, 15, 0, 1, 0, 0, 0, 0, 0, 0);
+        due("plain list of 0", -2, with("list int"), PLAIN, 15, 0, 1, 0, 0, 0, 0, 0, 0);
         for (int wire : new int[] {0, 7, 10, 11, 13, 14, 15}) {
-            due("dense field " + wire, -2, x, DENSE, 16 + wire, 0);
-            due("dense empty list of " + wire, -2, x, DENSE, 25, wire, 0);
-            due("dense list of " + wire, -2, x, DENSE, 25, 16 + wire, 0, 0);
-            due("dense list in a list", -2, x, DENSE, 25, 0x19, wire, 0);
+            due("dense field " + wire, -2, with("list int"), DENSE, 16 + wire, 0);
+            due("dense empty list of " + wire, -2, with("list int"), DENSE, 25, wire, 0);
+            due("dense list of " + wire, -2, with("list int"), DENSE, 25, 16 + wire, 0, 0);
+            due("dense list in a list", -2, with("list int"), DENSE, 25, 0x19, wire, 0);
             if (wire > 0) {
-                due("dense field " + wire + " with an id", -2, x, DENSE, wire, 2, 0);
+                due("dense field " + wire + " with an id", -2, with("list int"), DENSE, wire, 2, 0);
             }
         }
         for (int wire : new int[] {1, 2, 3, 4, 5, 6, 8, 9, 12}) {
-            due("dense empty list of " + wire, 0, x, DENSE, 25, wire, 0);
+            due("dense empty list of " + wire, 0, with("list int"), DENSE, 25, wire, 0);
         }
     }
 
     private static void flags() {
-        WireSchema x = with("flag");
+        Run x = with("flag");
         due("a plain flag 2", -2, x, PLAIN, 2, 0, 1, 2, 0);
         due("a plain flag 255", -2, x, PLAIN, 2, 0, 1, 255, 0);
         due("also when passed over", -2, x, PLAIN, 2, 0, 7, 2, 0);
         due("also in a list", -2, x, PLAIN, 15, 0, 7, 2, 0, 0, 0, 1, 2, 0);
-        WireSchema list = with("list flag");
+        Run list = with("list flag");
         due("in a list", -2, list, PLAIN, 15, 0, 1, 2, 0, 0, 0, 1, 2, 0);
         due("a dense 0", -2, list, DENSE, 25, 17, 0, 0);
         due("a dense 3", -2, list, DENSE, 25, 17, 3, 0);
@@ -213,7 +214,7 @@ final class DecodeTest {
     }
 
     private static void lengthsAndSizes() {
-        WireSchema x = with("text");
+        Run x = with("text");
         due("length -1", -2, x, PLAIN, 11, 0, 1, 255, 255, 255, 255, 0);
         due("length 121", -2, x, PLAIN, 11, 0, 1, 0, 0, 0, 121, 0);
         due("length 65536", -2, x, PLAIN, 11, 0, 1, 0, 1, 0, 0, 0);
@@ -242,7 +243,7 @@ final class DecodeTest {
         readsAs("long", Long.toString(Long.MIN_VALUE), DENSE,
                 22, 255, 255, 255, 255, 255, 255, 255, 255, 255, 127, 0);
         readsAs("text", "0", DENSE, 24, 128, 128, 128, 128, 128, 128, 128, 128, 128, 2, 0);
-        WireSchema x = with("long");
+        Run x = with("long");
         due("eleven bytes", -2, x, DENSE,
                 22, 128, 128, 128, 128, 128, 128, 128, 128, 128, 128, 0, 0);
         due("eleven bytes passed over", -2, x, DENSE,
@@ -257,16 +258,16 @@ final class DecodeTest {
         readsAs("short", "32767", DENSE, 20, 254, 255, 3, 0);
         readsAs("short", "-32768", DENSE, 20, 255, 255, 3, 0);
         readsAs("int", "2147483647", DENSE, 21, 254, 255, 255, 255, 15, 0);
-        WireSchema s = with("short");
+        Run s = with("short");
         due("short 32768", -2, s, DENSE, 20, 128, 128, 4, 0);
         due("short -32769", -2, s, DENSE, 20, 129, 128, 4, 0);
         due("short 32768 passed over", 0, s, DENSE, 36, 128, 128, 4, 0);
         due("short 2^40 passed over", 0, s, DENSE, 36, 128, 128, 128, 128, 128, 128, 64, 0);
-        WireSchema i = with("int");
+        Run i = with("int");
         due("int 2^31", -2, i, DENSE, 21, 128, 128, 128, 128, 16, 0);
         due("int -2^31 - 1", -2, i, DENSE, 21, 129, 128, 128, 128, 16, 0);
         due("int 2^32", -2, i, DENSE, 21, 128, 128, 128, 128, 32, 0);
-        WireSchema list = with("list short");
+        Run list = with("list short");
         due("in a list", -2, list, DENSE, 25, 36, 0, 128, 128, 4, 0);
         due("in a list of others", 0, list, DENSE, 25, 37, 0, 128, 128, 128, 128, 16, 0);
         due("in a list that is too great", -3, list, DENSE,
@@ -274,7 +275,7 @@ final class DecodeTest {
     }
 
     private static void idsOfTheDenseForm() {
-        WireSchema x = with("byte");
+        Run x = with("byte");
         due("id 32767", 0, x, DENSE, 3, 254, 255, 3, 7, 0);
         due("id -32768", 0, x, DENSE, 3, 255, 255, 3, 7, 0);
         due("id 32768", -2, x, DENSE, 3, 128, 128, 4, 7, 0);
@@ -283,7 +284,7 @@ final class DecodeTest {
         due("a step beyond 32767", 0, x, DENSE, 3, 254, 255, 3, 7, 0xF3, 8, 0);
         readsAs("byte", "8", DENSE, 3, 3, 7, 0x33, 8, 0);
         due("an id in what is passed over", -2, x, DENSE, 44, 3, 128, 128, 4, 7, 0, 0);
-        WireSchema far = Use.schema("struct", "field 40 byte", "field 41 byte", "field 9 byte",
+        Run far = Use.schema("struct", "field 40 byte", "field 41 byte", "field 9 byte",
                 "field 1 struct 0");
         due("ids in any order", 0, far, DENSE, 3, 80, 1, 3, 18, 2, 3, 82, 3, 0);
         CHECK.same("40", far.value(40, 0), 1);
@@ -296,7 +297,7 @@ final class DecodeTest {
     }
 
     private static void depths() {
-        WireSchema x = Use.schema("struct", "field 1 struct 0", "field 2 list struct 0",
+        Run x = Use.schema("struct", "field 1 struct 0", "field 2 list struct 0",
                 "field 3 list int");
         due("6 records", 0, x, DENSE, 28, 28, 28, 28, 28, 0, 0, 0, 0, 0, 0);
         due("7 records", -2, x, DENSE, 28, 28, 28, 28, 28, 28, 0, 0, 0, 0, 0, 0, 0);
@@ -317,7 +318,7 @@ final class DecodeTest {
         due("a record in lists, 7 deep", -2, x, DENSE, 89, 25, 25, 25, 25, 25, 28, 0, 0);
         due("a list in a list in the sixth", -2, x, DENSE,
                 28, 28, 28, 28, 28, 89, 25, 5, 0, 0, 0, 0, 0, 0);
-        WireSchema p = Use.schema("struct", "field 1 struct 0");
+        Run p = Use.schema("struct", "field 1 struct 0");
         due("plain, 6", 0, p, PLAIN,
                 12, 0, 1, 12, 0, 1, 12, 0, 1, 12, 0, 1, 12, 0, 1, 0, 0, 0, 0, 0, 0);
         due("plain, 7", -2, p, PLAIN,
@@ -325,7 +326,7 @@ final class DecodeTest {
     }
 
     private static void tooGreat() {
-        WireSchema x = with("text");
+        Run x = with("text");
         due("six", 0, x, DENSE, 24, 6, 97, 97, 97, 97, 97, 97, 0);
         due("seven", -3, x, DENSE, 24, 7, 97, 97, 97, 97, 97, 97, 97, 0);
         due("seven plain", -3, x, PLAIN, 11, 0, 1, 0, 0, 0, 7, 97, 97, 97, 97, 97, 97, 97, 0);
@@ -334,9 +335,9 @@ final class DecodeTest {
             due("a character " + c, -3, x, DENSE, 24, 2, 97, c, 0);
             due("a character " + c + " passed over", 0, x, DENSE, 40, 2, 97, c, 0);
         }
-        WireSchema texts = with("list text");
+        Run texts = with("list text");
         due("in a list", -3, texts, DENSE, 25, 40, 1, 97, 1, 7, 0);
-        WireSchema list = with("list byte");
+        Run list = with("list byte");
         due("five", 0, list, DENSE, 25, 0x53, 1, 2, 3, 4, 5, 0);
         due("six", -3, list, DENSE, 25, 0x63, 1, 2, 3, 4, 5, 6, 0);
         due("six plain", -3, list, PLAIN, 15, 0, 1, 3, 0, 0, 0, 6, 1, 2, 3, 4, 5, 6, 0);
@@ -345,7 +346,7 @@ final class DecodeTest {
     }
 
     private static void lacking() {
-        WireSchema x = Use.schema("struct", "field 1 byte required", "field 2 struct 0",
+        Run x = Use.schema("struct", "field 1 byte required", "field 2 struct 0",
                 "field 3 list struct 0");
         due("the root lacks", -4, x, PLAIN, 0);
         due("it has it", 0, x, DENSE, 19, 1, 0);
@@ -355,13 +356,13 @@ final class DecodeTest {
         due("an element lacks", -4, x, DENSE, 19, 1, 41, 44, 19, 1, 0, 0, 0);
         due("a record passed over lacks nothing", 0, x, DENSE, 19, 1, 60, 0, 0);
         due("even when it gives way", -4, x, DENSE, 19, 1, 28, 0, 12, 4, 19, 1, 0, 0);
-        WireSchema list = with("list int required");
+        Run list = with("list int required");
         due("an empty list is a value", 0, list, DENSE, 25, 5, 0);
         due("but not of others", -4, list, DENSE, 25, 6, 0);
     }
 
     private static void whatIsFoundFirst() {
-        WireSchema x = Use.schema("struct", "field 1 byte required", "struct",
+        Run x = Use.schema("struct", "field 1 byte required", "struct",
                 "field 1 struct 0", "field 2 list byte", "field 3 text required",
                 "field 4 list struct 0");
         Use.feed(x, 28, 0, 25, 0x63, 1, 2, 3, 4, 5, 6, 24, 0, 0);
@@ -383,7 +384,7 @@ final class DecodeTest {
     }
 
     private static void nothingChangesOtherwise() {
-        WireSchema x = Use.schema("struct", "field 1 byte required", "field 2 struct 0",
+        Run x = Use.schema("struct", "field 1 byte required", "field 2 struct 0",
                 "field 3 text");
         x.begin(0);
         x.number(1, 1);

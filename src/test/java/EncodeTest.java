@@ -18,15 +18,15 @@ final class EncodeTest {
         CHECK.end();
     }
 
-    private static void encoded(String what, WireSchema x, String plain, String dense) {
+    private static void encoded(String what, Run x, String plain, String dense) {
         CHECK.same(what + ", how many plain", x.encode(0), plain.split(" ").length);
         CHECK.same(what + ", plain", Use.bytes(x), plain);
         CHECK.same(what + ", how many dense", x.encode(1), dense.split(" ").length);
         CHECK.same(what + ", dense", Use.bytes(x), dense);
     }
 
-    private static WireSchema with(String type, long... values) {
-        WireSchema x = Use.schema("struct", "field 1 " + type);
+    private static Run with(String type, long... values) {
+        Run x = Use.schema("struct", "field 1 " + type);
         x.begin(0);
         for (long v : values) {
             x.number(1, v);
@@ -49,7 +49,7 @@ final class EncodeTest {
         encoded("long 0", with("long", 0), "10 0 1 0 0 0 0 0 0 0 0 0", "22 0 0");
         encoded("long bytes", with("long", 0x0102030405060708L), "10 0 1 1 2 3 4 5 6 7 8 0",
                 "22 144 156 176 208 128 193 129 130 2 0");
-        WireSchema x = with("text");
+        Run x = with("text");
         Use.text(x, 1, "hi");
         encoded("a text", x, "11 0 1 0 0 0 2 104 105 0", "24 2 104 105 0");
         x.text(1);
@@ -67,7 +67,7 @@ final class EncodeTest {
                 "15 0 1 10 0 0 0 5 0 0 0 0 0 0 0 1 0 0 0 0 0 0 0 2 0 0 0 0 0 0 0 3 "
                         + "0 0 0 0 0 0 0 4 0 0 0 0 0 0 0 5 0",
                 "25 86 2 4 6 8 10 0");
-        WireSchema x = with("list text");
+        Run x = with("list text");
         Use.text(x, 1, "a");
         Use.text(x, 1, "");
         Use.text(x, 1, "bcdefg");
@@ -77,7 +77,7 @@ final class EncodeTest {
     }
 
     private static void fieldsInTheOrderOfTheirIds() {
-        WireSchema x = Use.schema("struct", "field 30 byte", "field 2 byte", "field 999 byte",
+        Run x = Use.schema("struct", "field 30 byte", "field 2 byte", "field 999 byte",
                 "field 11 byte", "field 1 byte");
         x.begin(0);
         for (int id : new int[] {999, 1, 30, 11, 2}) {
@@ -89,7 +89,7 @@ final class EncodeTest {
     }
 
     private static void headsOfTheDenseForm() {
-        WireSchema x = Use.schema("struct", "field 15 flag", "field 30 flag", "field 46 flag",
+        Run x = Use.schema("struct", "field 15 flag", "field 30 flag", "field 46 flag",
                 "field 47 flag", "field 63 flag");
         x.begin(0);
         x.number(15, 1);
@@ -104,7 +104,7 @@ final class EncodeTest {
         x.number(63, 1);
         encoded("the step is from the field before that has a value", x,
                 "2 0 30 1 2 0 63 1 0", "1 60 1 126 0");
-        WireSchema first = Use.schema("struct", "field 16 byte");
+        Run first = Use.schema("struct", "field 16 byte");
         first.begin(0);
         first.number(16, 9);
         encoded("the first is 16", first, "3 0 16 9 0", "3 32 9 0");
@@ -117,14 +117,14 @@ final class EncodeTest {
             "128 128 1", "254 255 255 255 255 255 255 255 255 1",
             "255 255 255 255 255 255 255 255 255 1"};
         for (int i = 0; i < values.length; i++) {
-            WireSchema x = with("long", values[i]);
+            Run x = with("long", values[i]);
             x.encode(1);
             CHECK.same("zigzag of " + values[i], Use.bytes(x), "22 " + rows[i] + " 0");
         }
     }
 
     private static void recordsInRecords() {
-        WireSchema x = Use.schema("struct", "field 1 byte", "field 20 struct 0", "field 3 flag",
+        Run x = Use.schema("struct", "field 1 byte", "field 20 struct 0", "field 3 flag",
                 "field 21 list struct 0");
         x.begin(0);
         x.number(1, 1);
@@ -144,7 +144,7 @@ final class EncodeTest {
     }
 
     private static void emptyListsThatWereRead() {
-        WireSchema x = Use.schema("struct", "field 1 list int required", "field 2 list struct 0");
+        Run x = Use.schema("struct", "field 1 list int required", "field 2 list struct 0");
         CHECK.same("empty lists", Use.decode(x, 0, 1, 25, 5, 25, 12, 0), 0);
         CHECK.same("no elements", x.size(1), 0);
         encoded("an empty list is a value", x,
@@ -152,14 +152,14 @@ final class EncodeTest {
     }
 
     private static void sixDeepThatWereRead() {
-        WireSchema x = Use.schema("struct", "field 1 struct 0", "field 2 byte");
+        Run x = Use.schema("struct", "field 1 struct 0", "field 2 byte");
         String dense = "28 28 28 28 28 35 7 0 0 0 0 0 0";
         CHECK.same("6 deep", Use.decode(x, 0, 1, 28, 28, 28, 28, 28, 35, 7, 0, 0, 0, 0, 0, 0), 0);
         encoded("6 deep", x, "12 0 1 12 0 1 12 0 1 12 0 1 12 0 1 3 0 2 7 0 0 0 0 0 0", dense);
     }
 
     private static void theRootIsWrittenNotWhatIsAtHand() {
-        WireSchema x = Use.schema("struct", "field 1 byte", "field 2 struct 0");
+        Run x = Use.schema("struct", "field 1 byte", "field 2 struct 0");
         x.begin(0);
         x.number(1, 1);
         x.open(2);
@@ -169,7 +169,7 @@ final class EncodeTest {
     }
 
     private static void refusals() {
-        WireSchema x = Use.schema("struct", "field 1 byte required");
+        Run x = Use.schema("struct", "field 1 byte required");
         Use.feed(x, 9, 8);
         CHECK.throwing("no root", Check.STATE, () -> x.encode(0));
         CHECK.throwing("form 2 before no root", Check.ARGUMENT, () -> x.encode(2));
@@ -184,7 +184,7 @@ final class EncodeTest {
     }
 
     private static void whatIsLacking() {
-        WireSchema x = Use.schema("struct", "field 1 text required", "struct",
+        Run x = Use.schema("struct", "field 1 text required", "struct",
                 "field 1 list struct 0", "field 2 struct 0", "field 3 list int required");
         x.begin(1);
         CHECK.throwing("a list without elements", Check.STATE, () -> x.encode(0));
@@ -206,7 +206,7 @@ final class EncodeTest {
 
     /** In the plain form a list of 5 longs takes 48 bytes, and one of 4 longs 40. */
     private static void atMost120Bytes() {
-        WireSchema x = Use.schema("struct", "field 1 list long", "field 2 list long",
+        Run x = Use.schema("struct", "field 1 list long", "field 2 list long",
                 "field 3 list byte", "field 4 list byte");
         x.begin(0);
         for (int k = 0; k < 5; k++) {

@@ -17,7 +17,7 @@ final class LineTest {
     }
 
     private static void draftTakesFortyPrintableCharacters() {
-        WireSchema x = new WireSchema();
+        Run x = new Run();
         for (int c : new int[] {0, 9, 10, 31, 127, 160, 255, 256 + 's', 65535}) {
             CHECK.no("write of " + c, x.write((char) c));
         }
@@ -38,7 +38,7 @@ final class LineTest {
     private static void linesOfAllTypes() {
         String[] types = {"flag", "byte", "short", "int", "long", "text", "struct 0"};
         for (String type : types) {
-            WireSchema x = Use.schema("struct");
+            Run x = Use.schema("struct");
             CHECK.same(type, Use.line(x, "field 1 " + type), 2);
             CHECK.same(type + " required", Use.line(x, "field 2 " + type + " required"), 2);
             CHECK.same("list " + type, Use.line(x, "field 3 list " + type), 2);
@@ -49,7 +49,7 @@ final class LineTest {
     }
 
     private static void blanksDoNotMatter() {
-        WireSchema x = new WireSchema();
+        Run x = new Run();
         CHECK.same("blanks round struct", Use.line(x, "   struct  "), 1);
         CHECK.same("blanks in a field", Use.line(x, "  field   1  list   struct  0 required "), 2);
         CHECK.same("blanks alone", Use.line(x, "    "), 0);
@@ -75,7 +75,7 @@ final class LineTest {
             "a b c d e f g h i j k l m n o p q r s t", ",", "field 1 int,"
         };
         for (String line : lines) {
-            WireSchema x = Use.schema("struct");
+            Run x = Use.schema("struct");
             CHECK.throwing(line, Check.ARGUMENT, () -> Use.line(x, line));
             CHECK.same("fields behind " + line, x.count(2), 0);
             CHECK.same("structs behind " + line, x.count(1), 1);
@@ -83,7 +83,7 @@ final class LineTest {
     }
 
     private static void idsOfOneStruct() {
-        WireSchema x = Use.schema("struct");
+        Run x = Use.schema("struct");
         CHECK.same("999", Use.line(x, "field 999 int"), 2);
         CHECK.same("007", Use.line(x, "field 007 int"), 2);
         CHECK.throwing("7 again", Check.ARGUMENT, () -> Use.line(x, "field 7 text"));
@@ -96,17 +96,17 @@ final class LineTest {
     }
 
     private static void structNumbers() {
-        WireSchema x = Use.schema("struct", "struct", "struct");
+        Run x = Use.schema("struct", "struct", "struct");
         for (int s = 0; s <= 2; s++) {
             CHECK.same("struct " + s, Use.line(x, "field " + (s + 1) + " struct " + s), 2);
         }
         CHECK.throwing("struct 3", Check.ARGUMENT, () -> Use.line(x, "field 4 struct 3"));
-        WireSchema none = new WireSchema();
+        Run none = new Run();
         CHECK.throwing("struct 0 of none", Check.ARGUMENT, () -> Use.line(none, "field 1 struct 0"));
     }
 
     private static void limitsAreStates() {
-        WireSchema x = new WireSchema();
+        Run x = new Run();
         CHECK.throwing("no struct yet", Check.STATE, () -> Use.line(x, "field 1 int"));
         CHECK.throwing("no line, no struct", Check.ARGUMENT, () -> Use.line(x, "field 0 int"));
         for (int s = 1; s <= 5; s++) {
@@ -128,7 +128,7 @@ final class LineTest {
     }
 
     private static void draftIsEmptyBehindEveryLine() {
-        WireSchema x = new WireSchema();
+        Run x = new Run();
         CHECK.throwing("a state", Check.STATE, () -> Use.line(x, "field 1 int"));
         CHECK.same("behind a state", x.line(), 0);
         CHECK.throwing("no line", Check.ARGUMENT, () -> Use.line(x, "nonsense"));
@@ -141,7 +141,7 @@ final class LineTest {
 
     /** A line is read by its own words alone, not by those of a longer one before. */
     private static void wordsOfALongerLineAreGone() {
-        WireSchema x = Use.schema("struct", "field 1 list struct 0 required");
+        Run x = Use.schema("struct", "field 1 list struct 0 required");
         CHECK.same("four words", Use.line(x, "field 2 struct 0"), 2);
         CHECK.same("three words", Use.line(x, "field 3 int"), 2);
         CHECK.throwing("two words", Check.ARGUMENT, () -> Use.line(x, "field 4"));
@@ -151,7 +151,7 @@ final class LineTest {
     }
 
     private static void whatDropsTheRoot() {
-        WireSchema x = Use.schema("struct", "field 1 int");
+        Run x = Use.schema("struct", "field 1 int");
         x.begin(0);
         CHECK.throwing("no line", Check.ARGUMENT, () -> Use.line(x, "nonsense"));
         CHECK.same("no line leaves the root", x.count(3), 1);

@@ -2,7 +2,7 @@
 final class NewObjectTest {
     public static void main(String[] args) {
         Check check = new Check("NewObjectTest");
-        WireSchema x = new WireSchema();
+        Run x = new Run();
         for (int what = 0; what <= 3; what++) {
             check.same("count(" + what + ")", x.count(what), 0);
         }
@@ -27,11 +27,11 @@ final class NewObjectTest {
     }
 
     private static void twoObjectsShareNothing(Check check) {
-        WireSchema one = Use.schema("struct", "field 1 int");
+        Run one = Use.schema("struct", "field 1 int");
         one.begin(0);
         one.feed(7);
         Use.write(one, "struct");
-        WireSchema other = new WireSchema();
+        Run other = new Run();
         check.same("structs of another object", other.count(1), 0);
         check.same("bytes of another object", other.count(0), 0);
         check.same("line() of another object", other.line(), 0);

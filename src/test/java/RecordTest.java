@@ -26,7 +26,7 @@ final class RecordTest {
     }
 
     private static void beginMakesAnEmptyRoot() {
-        WireSchema x = Use.schema(ALL_TYPES);
+        Run x = Use.schema(ALL_TYPES);
         CHECK.no("begin(-1)", x.begin(-1));
         CHECK.no("begin(2)", x.begin(2));
         CHECK.same("no root yet", x.count(3), 0);
@@ -50,7 +50,7 @@ final class RecordTest {
             {1, 0, 1}, {2, -128, 127}, {3, -32768, 32767},
             {4, Integer.MIN_VALUE, Integer.MAX_VALUE}, {5, Long.MIN_VALUE, Long.MAX_VALUE}
         };
-        WireSchema x = Use.schema(ALL_TYPES);
+        Run x = Use.schema(ALL_TYPES);
         x.begin(0);
         for (long[] edge : edges) {
             int id = (int) edge[0];
@@ -70,7 +70,7 @@ final class RecordTest {
     }
 
     private static void numberGoesBehindOthersOfAList() {
-        WireSchema x = Use.schema(ALL_TYPES);
+        Run x = Use.schema(ALL_TYPES);
         x.begin(1);
         for (int n = 1; n <= 5; n++) {
             x.number(3, 100 * n);
@@ -86,7 +86,7 @@ final class RecordTest {
     }
 
     private static void numberRefusesInOrder() {
-        WireSchema x = Use.schema(ALL_TYPES);
+        Run x = Use.schema(ALL_TYPES);
         CHECK.throwing("no root", Check.STATE, () -> x.number(99, 1));
         x.begin(0);
         CHECK.throwing("no such field", Check.ELEMENT, () -> x.number(9, 1));
@@ -100,7 +100,7 @@ final class RecordTest {
     }
 
     private static void textTakesTheDraft() {
-        WireSchema x = Use.schema(ALL_TYPES);
+        Run x = Use.schema(ALL_TYPES);
         x.begin(0);
         Use.text(x, 6, "abc");
         CHECK.same("the text", Use.texts(x, 6), "/abc");
@@ -121,7 +121,7 @@ final class RecordTest {
     }
 
     private static void textRefusesAndEmptiesTheDraft() {
-        WireSchema x = Use.schema(ALL_TYPES);
+        Run x = Use.schema(ALL_TYPES);
         CHECK.throwing("no root", Check.STATE, () -> Use.text(x, 6, "sevenor"));
         CHECK.same("empty behind a state", x.line(), 0);
         x.begin(0);
@@ -141,7 +141,7 @@ final class RecordTest {
     }
 
     private static void openPutsARecordAtHand() {
-        WireSchema x = Use.schema(ALL_TYPES);
+        Run x = Use.schema(ALL_TYPES);
         x.begin(1);
         x.open(7);
         CHECK.same("path", x.count(3), 2);
@@ -169,7 +169,7 @@ final class RecordTest {
     }
 
     private static void openRefuses() {
-        WireSchema x = Use.schema(ALL_TYPES);
+        Run x = Use.schema(ALL_TYPES);
         CHECK.throwing("no root", Check.STATE, () -> x.open(99));
         x.begin(0);
         CHECK.throwing("no such field", Check.ELEMENT, () -> x.open(9));
@@ -187,7 +187,7 @@ final class RecordTest {
     }
 
     private static void goFindsRecords() {
-        WireSchema x = Use.schema(ALL_TYPES);
+        Run x = Use.schema(ALL_TYPES);
         x.begin(0);
         x.number(4, 1);
         x.open(7);
@@ -210,7 +210,7 @@ final class RecordTest {
     }
 
     private static void goRefusesInOrder() {
-        WireSchema x = Use.schema(ALL_TYPES);
+        Run x = Use.schema(ALL_TYPES);
         CHECK.throwing("no root", Check.STATE, () -> x.go(99, 0));
         x.begin(1);
         CHECK.throwing("no such field", Check.ELEMENT, () -> x.go(99, 0));
@@ -237,7 +237,7 @@ final class RecordTest {
 
     /** Only reading can put a record below the fourth of the path. */
     private static void fiveDeepByReading() {
-        WireSchema x = Use.schema(ALL_TYPES);
+        Run x = Use.schema(ALL_TYPES);
         int read = Use.decode(x, 0, 1, 0x7C, 0x7C, 0x7C, 0x7C, 0, 0, 0, 0, 0);
         CHECK.same("five deep", read, 0);
         x.go(7, 0);
@@ -250,7 +250,7 @@ final class RecordTest {
     }
 
     private static void backStopsAtTheRoot() {
-        WireSchema x = Use.schema(ALL_TYPES);
+        Run x = Use.schema(ALL_TYPES);
         CHECK.no("no root", x.back());
         x.begin(0);
         CHECK.no("at the root", x.back());
@@ -265,7 +265,7 @@ final class RecordTest {
     }
 
     private static void valueRefusesInOrder() {
-        WireSchema x = Use.schema(ALL_TYPES);
+        Run x = Use.schema(ALL_TYPES);
         CHECK.throwing("no root", Check.STATE, () -> x.value(99, 0));
         x.begin(1);
         CHECK.throwing("no such field", Check.ELEMENT, () -> x.value(99, 0));
@@ -287,7 +287,7 @@ final class RecordTest {
     }
 
     private static void sizesAndLetters() {
-        WireSchema x = Use.schema(ALL_TYPES);
+        Run x = Use.schema(ALL_TYPES);
         x.begin(0);
         CHECK.same("no such field", x.size(0), -1);
         CHECK.same("letter of no text yet", x.letter(6, 0, 0), -1);

@@ -25,9 +25,18 @@ final class RoomTest {
 
     private static void readAgainAndAgain(String what, int[] bytes, String... lines) {
         long before = allocated();
-        WireSchema x = Use.schema(lines);
-        Use.feed(x, bytes);
-        int calls = String.join("", lines).length() + lines.length + bytes.length + 1;
+        WireSchema x = new WireSchema();
+        int calls = bytes.length;
+        for (String line : lines) {
+            for (char c : line.toCharArray()) {
+                x.write(c);
+            }
+            x.line();
+            calls += line.length() + 1;
+        }
+        for (int b : bytes) {
+            x.feed(b);
+        }
         for (; calls < CALLS; calls++) {
             CHECK.same(what, x.decode(0, 1), 0);
         }

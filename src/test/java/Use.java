@@ -3,43 +3,45 @@ final class Use {
     private Use() {
     }
 
-    static void write(WireSchema x, String draft) {
+    static void write(Run x, String draft) {
         for (int i = 0; i < draft.length(); i++) {
             x.write(draft.charAt(i));
         }
     }
 
-    static int line(WireSchema x, String line) {
+    static int line(Run x, String line) {
         write(x, line);
         return x.line();
     }
 
-    static WireSchema schema(String... lines) {
-        WireSchema x = new WireSchema();
+    static Run schema(String... lines) {
+        Run x = new Run();
         for (String line : lines) {
             line(x, line);
         }
         return x;
     }
 
-    static void text(WireSchema x, int id, String draft) {
+    static void text(Run x, int id, String draft) {
         write(x, draft);
         x.text(id);
     }
 
-    static void feed(WireSchema x, int... bytes) {
+    static void feed(Run x, int... bytes) {
         x.clear();
         for (int b : bytes) {
-            x.feed(b);
+            if (!x.feed(b)) {
+                throw new AssertionError("a byte of the test was not taken: " + b);
+            }
         }
     }
 
-    static int decode(WireSchema x, int struct, int form, int... bytes) {
+    static int decode(Run x, int struct, int form, int... bytes) {
         feed(x, bytes);
         return x.decode(struct, form);
     }
 
-    static String bytes(WireSchema x) {
+    static String bytes(Run x) {
         StringBuilder row = new StringBuilder();
         for (int i = 0; i < x.count(0); i++) {
             row.append(i == 0 ? "" : " ").append(x.at(i));
@@ -48,7 +50,7 @@ final class Use {
     }
 
     /** The texts of a field of the record at hand, each behind a stroke. */
-    static String texts(WireSchema x, int id) {
+    static String texts(Run x, int id) {
         StringBuilder all = new StringBuilder();
         for (int k = 0; k < x.size(id); k++) {
             all.append('/');
@@ -59,7 +61,7 @@ final class Use {
         return all.toString();
     }
 
-    static String values(WireSchema x, int id) {
+    static String values(Run x, int id) {
         StringBuilder all = new StringBuilder();
         for (int k = 0; k < x.size(id); k++) {
             all.append(k == 0 ? "" : " ").append(x.value(id, k));
