@@ -109,7 +109,7 @@ final class BytesEdgeTest {
 
     // ---- Promise 13: decode
 
-    /** Fields 1 and 2 are records of struct 0; a byte is required, and a text and a list are not. */
+    /** Records of records, in which a byte is required, and a text and a list are not. */
     private static Run forest() {
         return Use.schema("struct", "field 1 struct 0", "field 2 list struct 0",
                 "field 3 byte required", "field 4 text", "field 5 list byte");
@@ -214,8 +214,8 @@ final class BytesEdgeTest {
         Use.feed(z, Row.join(Row.times(28, 3, 0, 1, 9), Row.of(6, 0, 1, 5, 5), Row.of(0, 0)));
         refused(z, -2, 0, 0);
         Run w = Use.schema("struct", "field 1 byte");
-        Use.feed(w, Row.join(Row.times(27, 3, 0, 1, 9), Row.of(8, 0, 1, 5, 5, 5, 5), Row.of(2, 0, 1),
-                Row.of(1), Row.of(0)));
+        Use.feed(w, Row.join(Row.times(27, 3, 0, 1, 9), Row.of(8, 0, 1, 5, 5, 5, 5),
+                Row.of(2, 0, 1, 1, 0)));
         CHECK.same("plain", w.decode(0, 0), 0);
         CHECK.same("bytes", w.count(0), 120);
     }
@@ -317,8 +317,8 @@ final class BytesEdgeTest {
     // ---- Promises 14 and 15: count and at
 
     private static void counts() {
-        CHECK.of("How many bytes there are (what = 0), structs (1), fields of the latest struct (2), "
-                + "records on the path (3)");
+        CHECK.of("How many bytes there are (what = 0), structs (1), fields of the latest struct "
+                + "(2), records on the path (3)");
         Run x = new Run();
         for (int what = 0; what <= 3; what++) {
             CHECK.same("count(" + what + ") of a new object", x.count(what), 0);

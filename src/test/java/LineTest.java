@@ -102,7 +102,8 @@ final class LineTest {
         }
         CHECK.throwing("struct 3", Check.ARGUMENT, () -> Use.line(x, "field 4 struct 3"));
         Run none = new Run();
-        CHECK.throwing("struct 0 of none", Check.ARGUMENT, () -> Use.line(none, "field 1 struct 0"));
+        CHECK.throwing("struct 0 of none", Check.ARGUMENT,
+                () -> Use.line(none, "field 1 struct 0"));
     }
 
     private static void limitsAreStates() {

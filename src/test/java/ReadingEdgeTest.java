@@ -92,7 +92,8 @@ final class ReadingEdgeTest {
         Run x = schema.again();
         x.begin(0);
         Use.feed(x, bytes);
-        CHECK.keeps(what, x, () -> CHECK.same("form " + form + ", " + what, x.decode(1, form), due));
+        String call = "form " + form + ", " + what;
+        CHECK.keeps(what, x, () -> CHECK.same(call, x.decode(1, form), due));
     }
 
     private static void malformed(String what, Run schema, int form, int... bytes) {
@@ -200,7 +201,7 @@ final class ReadingEdgeTest {
     }
 
     private static void sameWireTypeOfElements() {
-        CHECK.of("and for a list with the same wire type of elements (either of 1 and 2 for flags)");
+        CHECK.of("for a list with the same wire type of elements (either of 1 and 2 for flags)");
         for (int own = FLAG; own <= STRUCT; own++) {
             Run x = latest("1 list " + TYPES[own] + " required");
             for (int form = 0; form <= 1; form++) {
@@ -347,7 +348,8 @@ final class ReadingEdgeTest {
     }
 
     private static Run withAllTypes() {
-        return latest("1 flag", "2 byte", "3 short", "4 int", "6 text", "7 struct 1", "8 list byte");
+        return latest("1 flag", "2 byte", "3 short", "4 int", "6 text", "7 struct 1",
+                "8 list byte");
     }
 
     private static void endsTooEarly() {
@@ -638,8 +640,8 @@ final class ReadingEdgeTest {
         for (int t = 0; t < types.length; t++) {
             Run x = latest("1 " + types[t], "2 list " + types[t]);
             for (long v : values[t]) {
-                Run read = reads(types[t] + " " + v, x, DENSE,
-                        ended(Row.of(20 + t), zigzag(v), Row.of(25, 0x24 + t), zigzag(0), zigzag(v)));
+                Run read = reads(types[t] + " " + v, x, DENSE, ended(Row.of(20 + t), zigzag(v),
+                        Row.of(25, 0x24 + t), zigzag(0), zigzag(v)));
                 CHECK.same(types[t], read.value(1, 0), v);
                 CHECK.same("list " + types[t], Use.values(read, 2), "0 " + v);
             }

@@ -1,3 +1,5 @@
+import java.util.function.Consumer;
+
 /** The edges of VALUES, of promises 4 to 9, and of the looks at a record, 16 to 18. */
 final class RecordEdgeTest {
     private static final Check CHECK = new Check("RecordEdgeTest");
@@ -10,6 +12,7 @@ final class RecordEdgeTest {
     private static final int[] NO_PLACES = {-1, Integer.MIN_VALUE, Integer.MAX_VALUE, 65536};
 
     public static void main(String[] args) {
+        nothingElseChanges();
         numbersOfEachType();
         textsOfSix();
         listsOfFive();
@@ -83,8 +86,52 @@ final class RecordEdgeTest {
     }
 
     private static void noLetter(Run x, int id, int k, int i) {
-        CHECK.keeps("letter", x,
-                () -> CHECK.same("letter(" + id + ", " + k + ", " + i + ")", x.letter(id, k, i), -1));
+        String call = "letter(" + id + ", " + k + ", " + i + ")";
+        CHECK.keeps(call, x, () -> CHECK.same(call, x.letter(id, k, i), -1));
+    }
+
+    // ---- what no promise names
+
+    /** Of the parts of the state, those that the promise of a call does not name stay. */
+    private static void nothingElseChanges() {
+        CHECK.of("Nothing is promised beyond the answers and state changes described above");
+        Run x = rootOf("byte", "text", "struct 0");
+        x.open(3);
+        x.open(3);
+        x.back();
+        Use.feed(x, 19, 5, 0);
+        Use.write(x, "struct");
+        String bytes = State.bytes(x);
+        String records = State.records(x);
+        String draft = State.draft(x);
+        String schema = State.schema(x);
+        leaves(x, y -> y.write('s'), bytes, records, schema);
+        leaves(x, Run::line, bytes);
+        leaves(x, y -> y.begin(0), bytes, draft, schema);
+        leaves(x, y -> y.number(1, 5), bytes, draft, schema);
+        leaves(x, y -> y.text(2), bytes, schema);
+        leaves(x, y -> y.open(3), bytes, draft, schema);
+        leaves(x, y -> y.go(3, 0), bytes, draft, schema);
+        leaves(x, Run::back, bytes, draft, schema);
+        leaves(x, y -> y.encode(0), records, draft, schema);
+        leaves(x, Run::clear, records, draft, schema);
+        leaves(x, y -> y.feed(0), records, draft, schema);
+        leaves(x, y -> y.decode(0, 1), bytes, draft, schema);
+        leaves(x, y -> y.count(0), bytes, records, draft, schema);
+        leaves(x, y -> y.at(0), bytes, records, draft, schema);
+        leaves(x, y -> y.size(3), bytes, records, draft, schema);
+        leaves(x, y -> y.letter(2, 0, 0), bytes, records, draft, schema);
+        x.number(1, 9);
+        leaves(x, y -> y.value(1, 0), bytes, State.records(x), draft, schema);
+    }
+
+    private static void leaves(Run run, Consumer<Run> call, String... parts) {
+        Run x = run.again();
+        call.accept(x);
+        String behind = State.bytes(x) + State.records(x) + State.draft(x) + State.schema(x);
+        for (String part : parts) {
+            CHECK.yes(part + " in " + behind, behind.contains(part));
+        }
     }
 
     // ---- VALUES

@@ -132,7 +132,8 @@ final class RecordTest {
         CHECK.throwing("40 characters", Check.ARGUMENT, () -> Use.text(x, 6, "x".repeat(40)));
         CHECK.same("no value of those", x.size(6), 0);
         for (int id : new int[] {1, 2, 3, 4, 5, 7, 8}) {
-            CHECK.throwing("field " + id + " is no text", Check.ARGUMENT, () -> Use.text(x, id, "1"));
+            CHECK.throwing("field " + id + " is no text", Check.ARGUMENT,
+                    () -> Use.text(x, id, "1"));
             CHECK.same("empty behind no text", x.line(), 0);
         }
         Use.text(x, 6, "ok");

@@ -193,8 +193,9 @@ final class SchemaEdgeTest {
         fieldLine(x, "  field  3  list  struct  0  required  ");
         fieldLine(x, "field     4     int");
         for (String line : new String[] {"field5 int", "field 5int", "field 5 listint",
-            "field 5 struct0", "field 5 list struct0", "field 5 intrequired", "field 5 liststruct 0",
-            "field 5 struct 0required", "fi eld 5 int", "field 5 in t", "st ruct"}) {
+            "field 5 struct0", "field 5 list struct0", "field 5 intrequired",
+            "field 5 liststruct 0", "field 5 struct 0required", "fi eld 5 int", "field 5 in t",
+            "st ruct"}) {
             noLine(x, line);
         }
     }
@@ -271,15 +272,7 @@ final class SchemaEdgeTest {
         CHECK.throwing("encode(0)", Check.STATE, () -> x.encode(0));
         CHECK.same("bytes", x.count(0), 0);
         CHECK.same("at(0)", x.at(0), -1);
-        CHECK.same("room of the draft", roomOfTheDraft(x), 40);
-    }
-
-    private static int roomOfTheDraft(Run x) {
-        int room = 0;
-        while (x.write(' ')) {
-            room++;
-        }
-        return room;
+        CHECK.same("room of the draft", State.roomOfTheDraft(x), 40);
     }
 
     private static void writeAppends() {
@@ -334,7 +327,7 @@ final class SchemaEdgeTest {
             String thrown = Check.thrownBy(() -> read[0] = Use.line(x, line));
             String got = thrown.equals(Check.NOTHING) ? Integer.toString(read[0]) : thrown;
             CHECK.same("the line '" + line + "'", got, due[i]);
-            CHECK.same("room behind '" + line + "'", roomOfTheDraft(x.again()), 40);
+            CHECK.same("room behind '" + line + "'", State.roomOfTheDraft(x.again()), 40);
             CHECK.same("line() behind '" + line + "'", x.line(), 0);
         }
     }
@@ -355,11 +348,11 @@ final class SchemaEdgeTest {
 
     private static void lineThatIsNone() {
         CHECK.of("IllegalArgumentException when it is no line");
-        String[] lines = {"x", "struct x", "x struct", "struct 0", "struct struct", "struct required",
-            "Struct", "structs", "struc", "field", "field 1", "field int 1", "Field 1 int", "fields",
-            "fiel 1 int", "x field 1 int", "field 1 int x", "1 int", "a b c d e f g h i j k l m n o p",
-            "~", "field 1 struct 0 0", "list int", "x".repeat(40),
-            "a b c d e f g h i j k l m n o p q r s t "};
+        String[] lines = {"x", "struct x", "x struct", "struct 0", "struct struct",
+            "struct required", "Struct", "structs", "struc", "field", "field 1", "field int 1",
+            "Field 1 int", "fields", "fiel 1 int", "x field 1 int", "field 1 int x", "1 int",
+            "a b c d e f g h i j k l m n o p", "~", "field 1 struct 0 0", "list int",
+            "x".repeat(40), "a b c d e f g h i j k l m n o p q r s t "};
         Run none = new Run();
         Run some = Use.schema("struct", "field 2 text");
         some.begin(0);

@@ -3,29 +3,48 @@
  * own behind the same calls, as looking at a draft or a schema changes them.
  */
 final class State {
+    private static final int MOST_DRAFT = 40;
     private static final int MOST_PATH = 4;
 
     private State() {
     }
 
     static String of(Run run) {
+        return counts(run.again()) + bytes(run) + records(run) + draft(run) + schema(run);
+    }
+
+    static String bytes(Run run) {
+        return " bytes[" + Use.bytes(run.again()) + "]";
+    }
+
+    /** The root with all that is in it, and the path. */
+    static String records(Run run) {
         StringBuilder seen = new StringBuilder();
-        seen.append(counts(run.again()));
-        seen.append(" bytes[").append(Use.bytes(run.again())).append(']');
         seen.append(path(run.again()));
         seen.append(tree(run.again()));
-        seen.append(draft(run.again()));
-        for (int s = 0; s < run.again().count(1); s++) {
-            seen.append(struct(run.again(), s));
-        }
         for (int form = 0; form <= 1; form++) {
             seen.append(encoded(run.again(), form));
         }
         return seen.toString();
     }
 
+    static String draft(Run run) {
+        int room = roomOfTheDraft(run.again());
+        String text = room == MOST_DRAFT ? "" : textOfTheDraft(run);
+        return " draft[room " + room + ", " + text + lineOfTheDraft(run.again()) + "]";
+    }
+
+    static String schema(Run run) {
+        StringBuilder seen = new StringBuilder();
+        for (int s = 0; s < run.again().count(1); s++) {
+            seen.append(struct(run.again(), s));
+        }
+        return seen.append(' ').append(run.again().count(2)).toString();
+    }
+
     private static String counts(Run x) {
-        return "counts[" + x.count(0) + " " + x.count(1) + " " + x.count(2) + " " + x.count(3) + "]";
+        return "counts[" + x.count(0) + " " + x.count(1) + " " + x.count(2) + " " + x.count(3)
+                + "]";
     }
 
     /** The record at hand and those before it on the path. */
@@ -88,19 +107,37 @@ final class State {
         return () -> x.go(id, k);
     }
 
-    /** How long the draft is, and what it is as a line: the blanks behind it do not matter. */
-    private static String draft(Run x) {
+    static int roomOfTheDraft(Run x) {
         int room = 0;
         while (x.write(' ')) {
             room++;
         }
-        int[] read = new int[1];
-        String thrown = Check.thrownBy(() -> read[0] = x.line());
-        return " draft[room " + room + ", " + read[0] + " " + thrown + " " + counts(x) + "]";
+        return room;
     }
 
-    /** The fields of a struct by what they take; the first text field takes the draft. */
+    /** The draft as the first text field that takes it shows it. */
+    private static String textOfTheDraft(Run run) {
+        for (int s = 0; s < run.again().count(1); s++) {
+            for (int id : run.ids()) {
+                Run x = run.again();
+                x.begin(s);
+                if (Check.thrownBy(() -> x.text(id)).equals(Check.NOTHING)) {
+                    return Use.texts(x, id);
+                }
+            }
+        }
+        return "";
+    }
+
+    private static String lineOfTheDraft(Run x) {
+        int[] read = new int[1];
+        String thrown = Check.thrownBy(() -> read[0] = x.line());
+        return " " + read[0] + " " + thrown + " " + x.count(1) + " " + x.count(2);
+    }
+
+    /** The fields of a struct by what they take, with an empty draft. */
     private static String struct(Run x, int s) {
+        Check.thrownBy(() -> x.text(0));
         StringBuilder seen = new StringBuilder(" struct[");
         seen.append(x.begin(s)).append(' ');
         seen.append(Check.thrownBy(() -> x.encode(0)));
@@ -122,6 +159,7 @@ final class State {
     private static String encoded(Run x, int form) {
         int[] told = new int[1];
         String thrown = Check.thrownBy(() -> told[0] = x.encode(form));
-        return " form " + form + "[" + told[0] + " " + thrown + " " + Use.bytes(x) + "]";
+        String bytes = thrown.equals(Check.NOTHING) ? Use.bytes(x) : thrown;
+        return " form " + form + "[" + told[0] + ": " + bytes + "]";
     }
 }

@@ -70,7 +70,8 @@ final class WritingEdgeTest {
         for (int id = 7; id >= 2; id--) {
             x.number(id, 10 * id);
         }
-        written("all eight", x, 1, 19, 10, 19, 20, 19, 30, 19, 40, 19, 50, 19, 60, 19, 70, 19, 80, 0);
+        written("all eight", x, 1,
+                19, 10, 19, 20, 19, 30, 19, 40, 19, 50, 19, 60, 19, 70, 19, 80, 0);
         Run inner = with("list struct 0");
         inner.open(1);
         inner.back();
@@ -112,7 +113,8 @@ final class WritingEdgeTest {
     }
 
     private static void plainNumbers() {
-        CHECK.of("a flag and a byte one byte, a short two, an int four, a long eight, highest first");
+        CHECK.of("a flag and a byte one byte, a short two, an int four, a long eight, highest "
+                + "first");
         written("flag 0", with("flag", 0), 0, 2, 0, 1, 0, 0);
         written("flag 1", with("flag", 1), 0, 2, 0, 1, 1, 0);
         written("byte -128", with("byte", -128), 0, 3, 0, 1, 128, 0);
